@@ -6,8 +6,10 @@ import java.util.Random;
  * only so do numbers of any size come to the window.
  */
 final class RandomRunsTest {
-    private static final int RUNS = 1500;
-    private static final int CALLS = 512;
+    private static final int RUNS = 2000;
+    private static final int MOST_CALLS = 512;
+    private static final int MOST_CALLS_OF_A_STEP = 140;
+    private static final int CALLS_OF_A_LOOK = 88;
     private static final int[] ODD = {
         -1, -2, 2, 3, 7, 8, 31, 32, 95, 96, 126, 127, 255, 256, Integer.MIN_VALUE, Integer.MAX_VALUE
     };
@@ -43,7 +45,7 @@ final class RandomRunsTest {
         if (random.nextInt(8) != 0) {
             open();
         }
-        while (calls < CALLS - 170) {
+        while (calls < MOST_CALLS - MOST_CALLS_OF_A_STEP - CALLS_OF_A_LOOK) {
             step();
         }
         look();
