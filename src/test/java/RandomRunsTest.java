@@ -134,7 +134,7 @@ final class RandomRunsTest {
     }
 
     private void forge(int at, int direction) {
-        if (plain.sizeOf(at) == 0 || !plain.isOpened()) {
+        if (plain.sizeOf(at) == 0 || !plain.opened) {
             return;
         }
         byte[] want = plain.forged(at, direction, someNumber(direction));

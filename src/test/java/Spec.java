@@ -31,7 +31,7 @@ final class Spec {
             return keys;
         }
 
-        private static Keys of(int direction, byte[] root) {
+        static Keys of(int direction, byte[] root) {
             byte d = (byte) direction;
             return new Keys(hmac(root, new byte[] {d, 0, 1}), hmac(root, new byte[] {d, 1, 1}));
         }

@@ -1,19 +1,16 @@
-/**
- * What several tests do with a wire. The tests keep to 512 calls on an object, since nothing is
- * promised behind them.
- */
+/** What several tests do with a wire. */
 final class Wires {
-    static final int[] NO_BYTES = {-1, 256, -256, Integer.MIN_VALUE, Integer.MAX_VALUE};
+    static final int[] NO_BYTES = {-1, 256, 257, -256, Integer.MIN_VALUE, Integer.MAX_VALUE};
     static final int[] NO_SIDES = {-1, 2, 3, Integer.MIN_VALUE, Integer.MAX_VALUE};
     static final int[] NO_SLOTS = {-1, 8, 9, Integer.MIN_VALUE, Integer.MAX_VALUE};
+    static final int[] NO_PLACES = {-1, 32, 33, Integer.MIN_VALUE, Integer.MAX_VALUE};
+    static final byte[] NO_TEXT = new byte[0];
+    static final byte[] ZERO_KEY = new byte[32];
+
+    /** The shared key of the scenes below. */
+    static final byte[] SCENE_KEY = sceneKey();
 
     private Wires() {
-    }
-
-    static RecordWire opened() {
-        RecordWire wire = new RecordWire();
-        wire.open();
-        return wire;
     }
 
     /** Bytes that use the whole range and differ from one first byte to another. */
@@ -25,38 +22,78 @@ final class Wires {
         return text;
     }
 
-    static int sendText(RecordWire wire, int side, byte[] text) {
+    static void putText(Wire wire, byte[] text) {
         for (byte b : text) {
             wire.put(b & 255);
         }
+    }
+
+    static int sendText(Wire wire, int side, byte[] text) {
+        putText(wire, text);
         return wire.send(side);
     }
 
-    static void overwrite(RecordWire wire, int slot, byte[] bytes) {
+    static void setKey(Wire wire, byte[] key) {
+        for (int i = 0; i < key.length; i++) {
+            if (key[i] != 0) {
+                wire.setPsk(i, key[i] & 255);
+            }
+        }
+    }
+
+    static void overwrite(Wire wire, int slot, byte[] bytes) {
         for (int i = 0; i < bytes.length; i++) {
             wire.corrupt(slot, i, bytes[i] & 255);
         }
     }
 
-    static void slotIs(Due due, String when, RecordWire wire, int slot, byte[] want) {
-        for (int i = 0; i < want.length; i++) {
-            due.is(when + ": wireAt(" + slot + ", " + i + ")", wire.wireAt(slot, i), want[i] & 255);
-        }
-        due.is(when + ": wireAt(" + slot + ", " + want.length + ")",
-                wire.wireAt(slot, want.length), -1);
+    /** The record that a side sends on a wire with this shared key. */
+    static byte[] record(byte[] sharedKey, int side, int epoch, long number, byte[] text) {
+        return Spec.record(Spec.Keys.at(side, sharedKey, epoch), side, epoch, number, text);
     }
 
-    static void inboxIs(Due due, String when, RecordWire wire, byte[] want) {
-        due.is(when + ": gotLen()", wire.gotLen(), want.length);
-        for (int i = 0; i < want.length; i++) {
-            due.is(when + ": got(" + i + ")", wire.got(i), want[i] & 255);
-        }
-        due.is(when + ": got(" + want.length + ")", wire.got(want.length), -1);
+    /** A closed wire with something in all that a closed one can have. */
+    static void closed(Wire wire) {
+        setKey(wire, SCENE_KEY);
+        wire.put(9);
+        wire.put(200);
     }
 
-    static void countsAre(Due due, String when, RecordWire wire, int... want) {
-        for (int what = 0; what < want.length; what++) {
-            due.is(when + ": count(" + what + ")", wire.count(what), want[what]);
+    /**
+     * An open wire with something in every part. Slots 0, 1, 3 and 4 have the numbers 0, 1, 3 and 4
+     * from side 0, of which 0 and 3 are seen; slots 5 and 6 have 0 and 1 from side 1 in epoch 1, of
+     * which 0 is seen, so that the inbox has its text; slots 2 and 7 are empty.
+     */
+    static void busy(Wire wire) {
+        setKey(wire, SCENE_KEY);
+        wire.open();
+        wire.rekey(1);
+        for (int number = 0; number < 5; number++) {
+            sendText(wire, 0, text(3 + number, number));
         }
+        sendText(wire, 1, text(2, 50));
+        sendText(wire, 1, text(4, 60));
+        wire.deliver(0, 1);
+        wire.deliver(3, 1);
+        wire.deliver(5, 0);
+        wire.drop(2);
+        wire.put(9);
+        wire.put(200);
+    }
+
+    /** A busy wire whose slots 2 and 7 have the numbers 5 from side 0 and 2 from side 1. */
+    static void full(Wire wire) {
+        busy(wire);
+        wire.send(0);
+        wire.send(1);
+        wire.put(9);
+        wire.put(200);
+    }
+
+    private static byte[] sceneKey() {
+        byte[] key = new byte[32];
+        key[0] = 17;
+        key[31] = (byte) 255;
+        return key;
     }
 }
