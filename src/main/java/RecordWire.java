@@ -43,9 +43,8 @@ public final class RecordWire {
     private boolean opened;
 
     public RecordWire() {
-        Salsa20 salsa = new Salsa20();
         for (int side = 0; side < SIDES; side++) {
-            directions[side] = new Direction(side, hmac, salsa);
+            directions[side] = new Direction(side);
         }
         for (int slot = 0; slot < SLOTS; slot++) {
             slots[slot] = new ByteRow();
@@ -262,8 +261,8 @@ public final class RecordWire {
         private static final int FOR_TAGGING = 1;
 
         private final int index;
-        private final Hmac hmac;
-        private final Salsa20 salsa;
+        private final Hmac hmac = new Hmac();
+        private final Salsa20 salsa = new Salsa20();
         private final int[] sealKey = new int[KEY_BYTES];
         private final int[] tagKey = new int[KEY_BYTES];
         private final int[] tag = new int[Sha256.HASH_BYTES];
@@ -271,10 +270,8 @@ public final class RecordWire {
         private int epoch;
         private long nextNumber;
 
-        Direction(int index, Hmac hmac, Salsa20 salsa) {
+        Direction(int index) {
             this.index = index;
-            this.hmac = hmac;
-            this.salsa = salsa;
         }
 
         int epoch() {
